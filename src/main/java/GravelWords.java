@@ -184,7 +184,7 @@ public final class GravelWords {
             return BAD;
         }
         int fits = fitsOf(d);
-        boolean itFits = (fits & 1 << w) != 0;
+        boolean itFits = (fits & (1 << w)) != 0;
         int upper = itFits ? told.saidOf(w) : 0;
         int lower = itFits ? told.weightOf(fits) : 1;
         return inLeastTerms(what == 0 ? upper : lower, commonPart(upper, lower));
@@ -216,7 +216,7 @@ public final class GravelWords {
         if (k < 0) {
             return read;
         }
-        return k < read ? lastReadOf(order >> 3 * (read - 1 - k)) : NONE;
+        return k < read ? lastReadOf(order >> (3 * (read - 1 - k))) : NONE;
     }
 
     public int odds(int d, int x, int what) {
@@ -256,7 +256,7 @@ public final class GravelWords {
         if (image < 0 || image >= IMAGES) {
             return BAD;
         }
-        if ((imagesKept & 1 << image) == 0) {
+        if ((imagesKept & (1 << image)) == 0) {
             return STATE;
         }
         images.fetch(image, now);
@@ -303,11 +303,15 @@ public final class GravelWords {
         return trackOn(d, told.partOfGoer(g, GOER_FIRST), told.partOfGoer(g, GOER_STRIDE));
     }
 
+    private boolean isTrackOf(int d, int first, int stride) {
+        return trackOn(d, first, stride) == now.troddenOf(d);
+    }
+
     private int tracksOf(int d) {
         int tracks = 0;
         for (int first = 0; first <= FIRST_MOST; first++) {
             for (int stride = 1; stride <= STRIDE_MOST; stride++) {
-                if (trackOn(d, first, stride) == now.troddenOf(d)) {
+                if (isTrackOf(d, first, stride)) {
                     tracks++;
                 }
             }
@@ -318,7 +322,7 @@ public final class GravelWords {
     private int firstTrackOf(int d) {
         for (int first = 0; first <= FIRST_MOST; first++) {
             for (int stride = 1; stride <= STRIDE_MOST; stride++) {
-                if (trackOn(d, first, stride) == now.troddenOf(d)) {
+                if (isTrackOf(d, first, stride)) {
                     return 10 * first + stride;
                 }
             }
@@ -445,7 +449,7 @@ public final class GravelWords {
     private static int readIn(int order) {
         int read = 0;
         for (int k = 0; k < DRIVES_MOST; k++) {
-            if (order >> 3 * k != 0) {
+            if ((order >> (3 * k)) != 0) {
                 read++;
             }
         }
@@ -458,7 +462,7 @@ public final class GravelWords {
 
     private static boolean isReadIn(int order, int d) {
         for (int k = 0; k < DRIVES_MOST; k++) {
-            if (lastReadOf(order >> 3 * k) == d) {
+            if (lastReadOf(order >> (3 * k)) == d) {
                 return true;
             }
         }
@@ -621,7 +625,7 @@ public final class GravelWords {
         int weightOf(int bits) {
             int weight = 0;
             for (int w = 0; w < words; w++) {
-                weight += (bits & 1 << w) != 0 ? saidOf(w) : 0;
+                weight += (bits & (1 << w)) != 0 ? saidOf(w) : 0;
             }
             return weight;
         }
@@ -849,7 +853,7 @@ public final class GravelWords {
         }
 
         boolean isTrodden(int d, int x) {
-            return (troddenOf(d) & 1 << x) != 0;
+            return (troddenOf(d) & (1 << x)) != 0;
         }
 
         void setTrodden(int d, int bits) {

@@ -15,6 +15,7 @@ public final class TextTest {
         textsThatEndTooEarly();
         aFaultChangesNothing();
         readAnew();
+        nothingIsLeftOfWhatWasTold();
         CHECK.end();
     }
 
@@ -264,5 +265,25 @@ public final class TextTest {
         CHECK.due("told nothing: count(0)", x.count(0), 0);
         CHECK.due("told nothing: count(1)", x.count(1), 0);
         CHECK.due("told nothing: trace()", x.trace(), 1011);
+    }
+
+    private static void nothingIsLeftOfWhatWasTold() {
+        GravelWords x = CHECK.told("w5 abc;w6 abd;w7 abe;d4;d4;g1 0 0 1;g1 0 1 1;g1 1 2 1;", 8);
+        Check.type(x, "w1 ab;w2 abh;d4;g1 0 2 1;");
+        CHECK.due("less is told", x.suburb(), 4);
+        x.rakes(0, 1);
+        CHECK.due("the goers that were: odds(0, 5, 1)", x.odds(0, 5, 1), 2);
+        CHECK.due("the goers that were: hour()", x.hour(), 1);
+        CHECK.due("the goers that were: drive(0, 1)", x.drive(0, 1), 12);
+        CHECK.due("the words that were: FITS", x.drive(0, 2), 3);
+        CHECK.due("the words that were: likely(0, 0, 1)", x.likely(0, 0, 1), 3);
+        CHECK.due("the words that were: NEAR", x.word(0, 3), 1);
+        CHECK.due("the words that were: letter(0, 2)", x.letter(0, 2), -1);
+        CHECK.due("the drives that were: round(-1)", x.round(-1), 0);
+        CHECK.due("the drives that were: cell(1, 0)", x.cell(1, 0), -1);
+        x.undo();
+        x.undo();
+        x.rains();
+        CHECK.due("bare: odds(0, 5, 1)", x.odds(0, 5, 1), 1);
     }
 }

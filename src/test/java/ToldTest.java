@@ -140,6 +140,15 @@ public final class ToldTest {
         z.rakes(1, 0);
         z.cat(1, 2);
         CHECK.due("one fits: LOOK", z.drive(1, 3), -9);
+        GravelWords first = CHECK.told("w9 ab;w5 cd;w5 ce;d2;", 4);
+        first.treads(0, 0, 1);
+        CHECK.due("cell 0: 10, cell 1: 9: LOOK", first.drive(0, 3), 1);
+        GravelWords second = CHECK.told("w9 ab;w8 cd;w2 eb;d2;", 4);
+        second.treads(0, 0, 1);
+        CHECK.due("cell 0: 9, cell 1: 11: LOOK", second.drive(0, 3), 0);
+        GravelWords third = CHECK.told("w5 ab;w2 ca;w2 da;w2 ea;w2 fb;d2;", 6);
+        third.treads(0, 0, 1);
+        CHECK.due("cell 0: 5, cell 1: 7: LOOK", third.drive(0, 3), 0);
         GravelWords same = CHECK.told("w9 a;w9 a;w9 a;w9 a;w9 a;w9 a;d4;", 7);
         same.rakes(0, 0);
         same.cat(0, 3);
