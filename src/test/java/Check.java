@@ -1,11 +1,27 @@
 /** Counts the answers of one test that are not as due. */
 final class Check {
+    private static final long MILLISECONDS_MOST = 600_000;
+
     private final String name;
     private int asked = 0;
     private int wrong = 0;
 
     Check(String name) {
         this.name = name;
+        Thread watch = new Thread(this::endLate);
+        watch.setDaemon(true);
+        watch.start();
+    }
+
+    /** No call may fail to end: then neither does the test, which takes seconds. */
+    private void endLate() {
+        try {
+            Thread.sleep(MILLISECONDS_MOST);
+        } catch (InterruptedException early) {
+            return;
+        }
+        System.out.println(name + ": a call does not end");
+        Runtime.getRuntime().halt(1);
     }
 
     void due(String call, long got, long want) {

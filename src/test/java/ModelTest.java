@@ -12,27 +12,28 @@ public final class ModelTest {
     private static GravelWords x;
     private static Model model;
     private static int run;
+    private static int asked;
 
     public static void main(String[] args) {
         for (run = 1; run <= RUNS; run++) {
             x = new GravelWords();
             model = new Model();
+            asked = 0;
             play();
         }
         CHECK.end();
     }
 
     private static void play() {
-        int calls = 0;
-        while (calls < CALLS) {
-            if (calls == 0 || DICE.nextInt(60) == 0) {
-                calls += tell(DICE.nextInt(4) == 0 ? spoilt(text()) : text());
+        tell(text());
+        while (asked < CALLS) {
+            if (DICE.nextInt(60) == 0) {
+                tell(DICE.nextInt(4) == 0 ? spoilt(text()) : text());
             }
             if (DICE.nextInt(40) == 0) {
-                calls += lookAtAll();
+                lookAtAll();
             }
             call(DICE.nextInt(23));
-            calls++;
         }
     }
 
@@ -98,7 +99,7 @@ public final class ModelTest {
         return other.toString();
     }
 
-    private static int tell(String text) {
+    private static void tell(String text) {
         if (below(3) != 0) {
             due("clear()", () -> x.clear(), model.clear());
         }
@@ -107,26 +108,21 @@ public final class ModelTest {
             due("type(" + letter + ")", () -> x.type(letter), model.type(letter));
         }
         due("suburb() of '" + text + "'", () -> x.suburb(), model.suburb());
-        return text.length() + 2;
     }
 
-    private static int lookAtAll() {
-        int calls = 0;
+    private static void lookAtAll() {
         for (int d = 0; d < model.count(1); d++) {
             for (int i = 0; i < 8; i++) {
                 int drive = d;
                 int n = i;
                 due("cell(" + d + ", " + i + ")", () -> x.cell(drive, n), model.cell(drive, n));
                 due("drive(" + d + ", " + i + ")", () -> x.drive(drive, n), model.drive(drive, n));
-                calls += 2;
             }
         }
         for (int k = -1; k < 4; k++) {
             int n = k;
             due("round(" + k + ")", () -> x.round(n), model.round(n));
-            calls++;
         }
-        return calls;
     }
 
     private static void call(int which) {
@@ -205,10 +201,15 @@ public final class ModelTest {
         }
     }
 
-    private static void due(String call, LongSupplier asked, long want) {
+    /** What later calls of one object answer is free. */
+    private static void due(String call, LongSupplier answer, long want) {
+        if (asked >= CALLS) {
+            return;
+        }
+        asked++;
         long got;
         try {
-            got = asked.getAsLong();
+            got = answer.getAsLong();
         } catch (RuntimeException thrown) {
             System.out.println("run " + run + ": " + call + " throws " + thrown);
             got = ~want;
