@@ -25,7 +25,8 @@ public final class LeftSentencesTest {
 
     private static void likely() {
         OF.sentence("LIKELY of a WORD on a DRIVE: how often it is SAID by the WEIGHT of FITS: a fraction, in least terms");
-        OF.run("w2 ab;w4 ac;w6 ad;w1 abc;d2;d3;", "rakes 0 0 = 0, cat 0 1 = 1, likely 0 0 = 1/6, likely 0 1 = 1/3, likely 0 2 = 1/2, likely 0 3 = 0/1",
+        OF.run("w2 ab;w4 ac;w6 ad;w1 abc;d2;d3;", "rakes 0 0 = 0, cat 0 1 = 1, likely 0 0 = 1/6, likely 0 1 = 1/3",
+            "likely 0 2 = 1/2, likely 0 3 = 0/1",
             "treads 1 0 1 = 3, likely 1 0 = 2/13, likely 1 1 = 4/13, likely 1 2 = 6/13, likely 1 3 = 1/13");
         OF.run("w6 ab;w9 ac;d2;", "rakes 0 0 = 0, likely 0 0 = 1/1, cat 0 1 = 1, likely 0 0 = 2/5, likely 0 1 = 3/5");
         OF.run("w8 a;w4 b;w8 c;d1;", "cat 0 0 = 1, likely 0 0 = 2/5, likely 0 1 = 1/5, likely 0 2 = 2/5");
@@ -36,7 +37,8 @@ public final class LeftSentencesTest {
 
     private static void likelyAtItsEnds() {
         OF.sentence("LIKELY: (0 by 1, if it does not fit)");
-        OF.run("w9 ab;w9 cd;w9 abc;d2;", "likely 0 0 = 0/1, likely 0 1 = 0/1, rakes 0 0 = 0, likely 0 1 = 0/1, likely 0 2 = 0/1, treads 0 0 1 = 2, likely 0 2 = 0/1, likely 0 1 = 1/2");
+        OF.run("w9 ab;w9 cd;w9 abc;d2;", "likely 0 0 = 0/1, likely 0 1 = 0/1, rakes 0 0 = 0, likely 0 1 = 0/1",
+            "likely 0 2 = 0/1, treads 0 0 1 = 2, likely 0 2 = 0/1, likely 0 1 = 1/2");
         OF.run("w9 ab;d1;", "cat 0 0 = 1, likely 0 0 = 0/1");
         OF.sentence("LIKELY: 1 by 1");
         OF.run("w9 ab;w5 cd;d2;", "rakes 0 0 = 0, likely 0 0 = 1/1, cat 0 0 = 1, likely 0 0 = 1/1, likely 0 1 = 0/1");
@@ -45,9 +47,12 @@ public final class LeftSentencesTest {
 
     private static void likelyRefused() {
         OF.sentence("likely: upper (what = 0), lower number (1). BAD.");
-        OF.run("w2 ab;w4 ac;d2;", "treads 0 0 1 = 2, likely 0 0 0 = 1, likely 0 0 1 = 3, likely 0 0 2 = BAD, likely 0 0 -1 = BAD, likely 1 0 0 = BAD, likely -1 0 0 = BAD",
-            "likely 0 2 0 = BAD, likely 0 -1 0 = BAD, likely 0 2 1 = BAD, likely 0 32 0 = BAD, likely 0 6 1 = BAD, likely 4 0 1 = BAD, likely 1 2 2 = BAD",
-            "likely 0 0 2147483647 = BAD, likely 0 0 -2147483648 = BAD, likely 2147483647 0 0 = BAD, likely 0 2147483647 0 = BAD, likely -2147483648 0 0 = BAD");
+        OF.run("w2 ab;w4 ac;d2;", "treads 0 0 1 = 2, likely 0 0 0 = 1, likely 0 0 1 = 3, likely 0 0 2 = BAD",
+            "likely 0 0 -1 = BAD, likely 1 0 0 = BAD, likely -1 0 0 = BAD",
+            "likely 0 2 0 = BAD, likely 0 -1 0 = BAD, likely 0 2 1 = BAD, likely 0 32 0 = BAD, likely 0 6 1 = BAD",
+            "likely 4 0 1 = BAD, likely 1 2 2 = BAD",
+            "likely 0 0 2147483647 = BAD, likely 0 0 -2147483648 = BAD, likely 2147483647 0 0 = BAD",
+            "likely 0 2147483647 0 = BAD, likely -2147483648 0 0 = BAD");
         OF.run("d1;", "likely 0 0 0 = BAD");
         OF.run("w1 a;", "likely 0 0 0 = BAD");
     }
@@ -61,19 +66,24 @@ public final class LeftSentencesTest {
         OF.run("w1 a;d1;", RAKED_1, "spoil 0 1 = 0/1, spoil 0 2 = 1/0, spoil 0 3 = 1/0, spoil 0 4 = 1/0");
         OF.sentence("SPOIL: of several the lowest");
         OF.run("w1 ab;d8;", "spoil 0 1 = 0/0, spoil 0 4 = 0/0, rakes 0 0 = 6, spoil 0 2 = 0/1, spoil 0 3 = 2/0, spoil 0 4 = 2/0");
-        OF.run("w1 abcdef;d8;", "rakes 0 0 = 2, spoil 0 4 = 2/1, cat 0 2 = 1, spoil 0 4 = 2/0, cat 0 3 = 2, spoil 0 4 = 2/0, spoil 0 2 = 0/2, spoil 0 3 = 0/1");
+        OF.run("w1 abcdef;d8;", "rakes 0 0 = 2, spoil 0 4 = 2/1, cat 0 2 = 1, spoil 0 4 = 2/0, cat 0 3 = 2, spoil 0 4 = 2/0",
+            "spoil 0 2 = 0/2, spoil 0 3 = 0/1");
     }
 
     private static void spoilAtItsEnds() {
         OF.sentence("SPOIL: LETTERS that can be read NOW");
-        OF.run("w1 abcdef;d6;", RAKED_1, "cat 0 1 = 1, spoil 0 2 = 1/2, spoil 0 3 = 1/1, spoil 0 4 = 1/1, treads 0 0 1 = 5, spoil 0 1 = 0/0, spoil 0 4 = 0/0");
-        OF.run("w1 abcd;d8;", "rakes 0 0 = 4, spoil 0 4 = 0/1, rains = 3, spoil 0 1 = 0/1, spoil 0 2 = 1/0, spoil 0 4 = 1/0, undo = 1, spoil 0 1 = 0/4");
+        OF.run("w1 abcdef;d6;", RAKED_1, "cat 0 1 = 1, spoil 0 2 = 1/2, spoil 0 3 = 1/1, spoil 0 4 = 1/1, treads 0 0 1 = 5",
+            "spoil 0 1 = 0/0, spoil 0 4 = 0/0");
+        OF.run("w1 abcd;d8;", "rakes 0 0 = 4, spoil 0 4 = 0/1, rains = 3, spoil 0 1 = 0/1, spoil 0 2 = 1/0, spoil 0 4 = 1/0",
+            "undo = 1, spoil 0 1 = 0/4");
         OF.run("w1 ab;d2;d2;", "rakes 1 0 = 0, spoil 0 1 = 0/0, spoil 1 1 = 0/2");
         OF.sentence("spoil: FIRST beyond the DRIVE treads nothing");
         OF.run("w1 ab;d2;", RAKED_1, "spoil 0 3 = 2/0, spoil 0 4 = 2/0");
         OF.sentence("spoil: BAD.");
-        OF.run("w1 ab;d2;", RAKED_1, "spoil 0 0 0 = BAD, spoil 0 5 0 = BAD, spoil 0 -1 0 = BAD, spoil 1 1 0 = BAD, spoil -1 1 0 = BAD, spoil 4 1 0 = BAD, spoil 0 1 2 = BAD",
-            "spoil 0 1 -1 = BAD, spoil 0 0 1 = BAD, spoil 0 5 1 = BAD, spoil 1 5 2 = BAD, spoil 0 2147483647 0 = BAD, spoil 0 -2147483648 0 = BAD",
+        OF.run("w1 ab;d2;", RAKED_1, "spoil 0 0 0 = BAD, spoil 0 5 0 = BAD, spoil 0 -1 0 = BAD, spoil 1 1 0 = BAD",
+            "spoil -1 1 0 = BAD, spoil 4 1 0 = BAD, spoil 0 1 2 = BAD",
+            "spoil 0 1 -1 = BAD, spoil 0 0 1 = BAD, spoil 0 5 1 = BAD, spoil 1 5 2 = BAD, spoil 0 2147483647 0 = BAD",
+            "spoil 0 -2147483648 0 = BAD",
             "spoil 2147483647 1 0 = BAD, spoil -2147483648 1 0 = BAD, spoil 0 1 2147483647 = BAD");
     }
 
@@ -99,10 +109,13 @@ public final class LeftSentencesTest {
 
     private static void whatIsReadInTime() {
         OF.sentence("ROUND: A DRIVE is read in time, if it has a LETTER that can be read");
-        OF.run("w1 ab;d2;d2;", "round = none, rakes 1 0 = 0, round = 1, cat 1 0 = 1, round = 1, cat 1 1 = 2, round = none, undo = 2, rains = 1, round = none, undo = 2, round = 1");
-        OF.run("w1 ab;d8;d8;", "rakes 0 0 = 6, rakes 1 0 = 6, round = 0 1, treads 0 0 1 = 8, round = 1, rains = 2, round = 1, cat 1 0 = 1, round = none");
+        OF.run("w1 ab;d2;d2;", "round = none, rakes 1 0 = 0, round = 1, cat 1 0 = 1, round = 1, cat 1 1 = 2, round = none",
+            "undo = 2, rains = 1, round = none, undo = 2, round = 1");
+        OF.run("w1 ab;d8;d8;", "rakes 0 0 = 6, rakes 1 0 = 6, round = 0 1, treads 0 0 1 = 8, round = 1, rains = 2, round = 1",
+            "cat 1 0 = 1, round = none");
         OF.sentence("ROUND: no GOER of it has an HOUR from THE HOUR (that one, too)");
-        OF.run("w1 a;d2;g3 0 7 1;", "rakes 0 0 = 1, round = 0, hour = 0, round = 0, hour = 0, round = none, hour = 1, round = none, hour = 0, round = 0");
+        OF.run("w1 a;d2;g3 0 7 1;", "rakes 0 0 = 1, round = 0, hour = 0, round = 0, hour = 0, round = none, hour = 1",
+            "round = none, hour = 0, round = 0");
         OF.run("w1 a;d1;g24 0 0 1;", "23 x hour = 0, rakes 0 0 = 0, round = none, hour = 1, rakes 0 0 = 0, round = none");
         OF.sentence("ROUND: .. up to that at which the reading ends (that one, too)");
         OF.run("w1 a;d1;g1 0 0 1;", RAKED_1, "round = none");
@@ -147,20 +160,25 @@ public final class LeftSentencesTest {
         OF.run("w1 a;", "round -1 = 0, round 0 = NONE, round 3 = NONE");
         OF.run("w1 a;d1;d1;d1;d1;", RAKED_4, "round -1 = 4, round 3 = 3");
         OF.sentence("round: BAD (below -1, above 3).");
-        OF.run("w1 a;d1;d1;d1;d1;", RAKED_4, "round -2 = BAD, round 4 = BAD, round 2147483647 = BAD, round -2147483648 = BAD, round -9 = BAD");
+        OF.run("w1 a;d1;d1;d1;d1;", RAKED_4, "round -2 = BAD, round 4 = BAD, round 2147483647 = BAD, round -2147483648 = BAD",
+            "round -9 = BAD");
         OF.bare("round -2 = BAD, round 4 = BAD, round -1 = 0, round 3 = NONE");
         OF.sentence("ROUND at THE HOUR 24");
-        OF.run("w1 a;d1;d1;d1;d1;g24 1 7 1;g23 2 7 1;", "22 x hour = 0, 2 x hour = 1, " + RAKED_4, "round = 0 2 3, undo = 9, round = 0 2, undo = 8, round = 0");
+        OF.run("w1 a;d1;d1;d1;d1;g24 1 7 1;g23 2 7 1;", "22 x hour = 0, 2 x hour = 1, " + RAKED_4, "round = 0 2 3, undo = 9",
+            "round = 0 2, undo = 8, round = 0");
     }
 
     private static void odds() {
         OF.sentence("ODDS: each GOER of it whose HOUR is later than THE HOUR comes by x of 10, for itself");
-        OF.run("w1 a;d1;d1;g2 0 0 1;g3 0 0 1;g3 1 0 1;", RAKED_2, "odds 0 5 = 1/4, odds 0 2 = 16/25, odds 1 5 = 1/2, hour = 0, odds 0 5 = 1/4, hour = 1",
+        OF.run("w1 a;d1;d1;g2 0 0 1;g3 0 0 1;g3 1 0 1;", RAKED_2, "odds 0 5 = 1/4, odds 0 2 = 16/25, odds 1 5 = 1/2, hour = 0",
+            "odds 0 5 = 1/4, hour = 1",
             "rakes 0 0 = 0, odds 0 5 = 1/2, odds 1 5 = 1/2, hour = 2, rakes 0 0 = 0, odds 0 5 = 1/1, odds 0 10 = 1/1");
         OF.run("w1 a;d1;g24 0 0 1;", "23 x hour = 0, rakes 0 0 = 0, odds 0 3 = 7/10, hour = 1, rakes 0 0 = 0, odds 0 3 = 1/1");
         OF.sentence("ODDS: that no LETTER that can be read NOW is TRODDEN by them");
-        OF.run("w1 abcd;d6;g1 0 0 4;g2 0 1 4;g3 0 2 4;g4 0 4 1;g5 0 6 1;", "odds 0 5 = 1/1, rakes 0 0 = 2, odds 0 5 = 1/8, cat 0 1 = 1, odds 0 5 = 1/4, treads 0 0 2 = 3, odds 0 5 = 1/1");
-        OF.run("w1 abcd;d6;g1 0 1 4;g2 0 3 1;g2 0 0 4;", "rakes 0 0 = 2, odds 0 5 = 1/8, rains = 3, odds 0 5 = 1/2, undo = 1, odds 0 5 = 1/8");
+        OF.run("w1 abcd;d6;g1 0 0 4;g2 0 1 4;g3 0 2 4;g4 0 4 1;g5 0 6 1;", "odds 0 5 = 1/1, rakes 0 0 = 2, odds 0 5 = 1/8",
+            "cat 0 1 = 1, odds 0 5 = 1/4, treads 0 0 2 = 3, odds 0 5 = 1/1");
+        OF.run("w1 abcd;d6;g1 0 1 4;g2 0 3 1;g2 0 0 4;", "rakes 0 0 = 2, odds 0 5 = 1/8, rains = 3, odds 0 5 = 1/2, undo = 1",
+            "odds 0 5 = 1/8");
         OF.run("w1 a;w1 ab;d2;g1 0 1 1;g2 0 7 4;", "rakes 0 0 = 1, odds 0 10 = 1/1, rakes 0 1 = 0, odds 0 10 = 0/1");
         OF.run("w1 abcdef;d6;g1 0 2 3;", RAKED_1, "odds 0 1 = 9/10, cat 0 2 = 1, odds 0 1 = 9/10, cat 0 5 = 2, odds 0 1 = 1/1");
     }
@@ -183,17 +201,23 @@ public final class LeftSentencesTest {
 
     private static void oddsAtTheirEnds() {
         OF.sentence("ODDS by x (0 .. 10): 1 by 1, 0 by 1");
-        OF.run("w1 a;d1;g1 0 0 1;", "odds 0 0 = 1/1, odds 0 10 = 1/1, rakes 0 0 = 0, odds 0 0 = 1/1, odds 0 10 = 0/1, cat 0 0 = 1, odds 0 10 = 1/1");
+        OF.run("w1 a;d1;g1 0 0 1;", "odds 0 0 = 1/1, odds 0 10 = 1/1, rakes 0 0 = 0, odds 0 0 = 1/1, odds 0 10 = 0/1",
+            "cat 0 0 = 1, odds 0 10 = 1/1");
         OF.run("w1 a;d1;", RAKED_1, "odds 0 0 = 1/1, odds 0 5 = 1/1, odds 0 10 = 1/1");
         OF.sentence("odds: BAD.");
-        OF.run("w1 a;d1;g1 0 0 1;", RAKED_1, "odds 0 11 0 = BAD, odds 0 -1 0 = BAD, odds 0 11 1 = BAD, odds 1 0 0 = BAD, odds -1 0 0 = BAD, odds 4 0 0 = BAD, odds 0 0 2 = BAD",
-            "odds 0 0 -1 = BAD, odds 1 11 2 = BAD, odds 0 2147483647 0 = BAD, odds 0 -2147483648 0 = BAD, odds 2147483647 0 0 = BAD, odds 0 5 2147483647 = BAD");
+        OF.run("w1 a;d1;g1 0 0 1;", RAKED_1, "odds 0 11 0 = BAD, odds 0 -1 0 = BAD, odds 0 11 1 = BAD, odds 1 0 0 = BAD",
+            "odds -1 0 0 = BAD, odds 4 0 0 = BAD, odds 0 0 2 = BAD",
+            "odds 0 0 -1 = BAD, odds 1 11 2 = BAD, odds 0 2147483647 0 = BAD, odds 0 -2147483648 0 = BAD",
+            "odds 2147483647 0 0 = BAD, odds 0 5 2147483647 = BAD");
     }
 
     private static void nothingIsChanged() {
         OF.sentence("(As things are NOW; nothing is changed.)");
-        OF.run("w2 abc;w1 abd;d3;d4;g2 0 0 1;g3 1 0 2;", "rakes 0 0 = 0, rakes 1 1 = 1, cat 0 2 = 1, hour = 0, keep 0 = 1", "3 x likely 0 0 = 2/3",
-            "3 x spoil 0 2 = 0/1, round = 1, round = 1, 3 x odds 0 5 = 1/2, 3 x odds 1 5 = 1/2, 2 x drive 0 3 = 2, 2 x drive 0 5 = 21, 2 x word 0 2 = 1",
-            "board 0 = ab#, board 1 = abd., count 3 = 1, count 4 = 4, trace = 0, undo = 3, count 3 = 0, undo = 2, board 0 = abc, back 0 = 1");
+        OF.run("w2 abc;w1 abd;d3;d4;g2 0 0 1;g3 1 0 2;", "rakes 0 0 = 0, rakes 1 1 = 1, cat 0 2 = 1, hour = 0, keep 0 = 1",
+            "3 x likely 0 0 = 2/3",
+            "3 x spoil 0 2 = 0/1, round = 1, round = 1, 3 x odds 0 5 = 1/2, 3 x odds 1 5 = 1/2, 2 x drive 0 3 = 2",
+            "2 x drive 0 5 = 21, 2 x word 0 2 = 1",
+            "board 0 = ab#, board 1 = abd., count 3 = 1, count 4 = 4, trace = 0, undo = 3, count 3 = 0, undo = 2",
+            "board 0 = abc, back 0 = 1");
     }
 }

@@ -26,7 +26,7 @@ final class Runs {
         check = new Check(name);
     }
 
-    /** The document's words that the runs behind this one would break with. */
+    /** Names the sentence that the program would break, were the runs behind it not as due. */
     void sentence(String words) {
         endOfSentence();
         sentence = words;

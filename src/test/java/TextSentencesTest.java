@@ -358,12 +358,15 @@ public final class TextSentencesTest {
             "tell w1 b;w1 c; = 2, count 0 = 2, count 1 = 0, drive 0 0 = BAD, word 0 3 = 1, round = none",
             "suburb = 0, count 0 = 0, word 0 0 = BAD");
         OF.sentence("Read anew: IMAGES are gone");
-        OF.run("w1 a;d1;", "keep 0 = 0, keep 1 = 0, tell d1; = 1, back 0 = STATE, back 1 = STATE, keep 1 = 0, back 1 = 0, back 0 = STATE");
+        OF.run("w1 a;d1;", "keep 0 = 0, keep 1 = 0, tell d1; = 1, back 0 = STATE, back 1 = STATE, keep 1 = 0, back 1 = 0",
+            "back 0 = STATE");
         OF.bare("keep 0 = 0, suburb = 0, back 0 = STATE");
         OF.sentence("Read anew: nothing can be UNDONE");
-        OF.run("w1 a;d1;", "rakes 0 0 = 0, hour = 0, tell d1; = 1, count 4 = 0, undo = STATE, board 0 = ., rains = 0, undo = 0, undo = STATE");
+        OF.run("w1 a;d1;", "rakes 0 0 = 0, hour = 0, tell d1; = 1, count 4 = 0, undo = STATE, board 0 = ., rains = 0",
+            "undo = 0, undo = STATE");
         OF.bare("12 x rains = 0, suburb = 0, undo = STATE, hour = 0, undo = 0, count 3 = 0, undo = STATE");
         OF.sentence("Read anew: THE TRACE goes on");
-        OF.run("w1 a;d1;", "rate 3 0 = 4, trace = 1011, tell w1 b; = 1, trace = 1011, rate 0 0 = 1, trace = 1012, suburb = 0, trace = 1012");
+        OF.run("w1 a;d1;", "rate 3 0 = 4, trace = 1011, tell w1 b; = 1, trace = 1011, rate 0 0 = 1, trace = 1012, suburb = 0",
+            "trace = 1012");
     }
 }

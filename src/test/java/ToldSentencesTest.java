@@ -23,7 +23,8 @@ public final class ToldSentencesTest {
         OF.run("w9 abcdef;w1 h;", "word 0 0 = 6, word 0 1 = 9, word 0 2 = 6, word 0 3 = 1",
             "word 1 0 = 1, word 1 1 = 1, word 1 2 = 6, word 1 3 = 0");
         OF.sentence("word: BAD");
-        OF.run("w9 abcdef;w1 h;", "word 2 0 = BAD, word 2 1 = BAD, word 2 2 = BAD, word 2 3 = BAD, word -1 0 = BAD, word -1 2 = BAD",
+        OF.run("w9 abcdef;w1 h;", "word 2 0 = BAD, word 2 1 = BAD, word 2 2 = BAD, word 2 3 = BAD, word -1 0 = BAD",
+            "word -1 2 = BAD",
             "word 0 -1 = BAD, word 0 4 = BAD, word 5 0 = BAD, word 6 0 = BAD, word 32 0 = BAD",
             "word 2147483647 2147483647 = BAD, word -2147483648 -2147483648 = BAD, word 0 2147483647 = BAD");
         OF.bare("word 0 0 = BAD, word 0 2 = BAD, word 0 3 = BAD");
@@ -61,7 +62,8 @@ public final class ToldSentencesTest {
         OF.sentence("letter: The k-th LETTER of a WORD (0 the first).");
         OF.run("w1 abcdef;w1 hg;", "letter 0 0 = 0, letter 0 1 = 1, letter 0 5 = 5, letter 1 0 = 7, letter 1 1 = 6");
         OF.sentence("letter: BAD (there are not so many, too)");
-        OF.run("w1 abcdef;w1 hg;w1 a;", "letter 0 6 = BAD, letter 0 7 = BAD, letter 1 2 = BAD, letter 1 5 = BAD, letter 2 1 = BAD",
+        OF.run("w1 abcdef;w1 hg;w1 a;", "letter 0 6 = BAD, letter 0 7 = BAD, letter 1 2 = BAD, letter 1 5 = BAD",
+            "letter 2 1 = BAD",
             "letter 0 -1 = BAD, letter 1 -1 = BAD, letter 3 0 = BAD, letter -1 0 = BAD, letter -1 6 = BAD",
             "letter 0 2147483647 = BAD, letter 0 -2147483648 = BAD, letter 2147483647 0 = BAD");
     }
@@ -73,22 +75,28 @@ public final class ToldSentencesTest {
             "drive 0 1 = 0, drive 2 1 = 0, cat 0 0 = 1, drive 0 1 = 1, cat 3 4 = 1, drive 3 1 = 16");
         OF.sentence("drive: BAD");
         OF.run("d8;d3;", "drive 2 0 = BAD, drive 2 5 = BAD, drive 3 0 = BAD, drive 4 0 = BAD, drive -1 0 = BAD, drive -1 4 = BAD",
-            "drive 0 6 = BAD, drive 0 -1 = BAD, drive 1 7 = BAD, drive 0 2147483647 = BAD, drive 2147483647 0 = BAD, drive -2147483648 0 = BAD");
+            "drive 0 6 = BAD, drive 0 -1 = BAD, drive 1 7 = BAD, drive 0 2147483647 = BAD, drive 2147483647 0 = BAD",
+            "drive -2147483648 0 = BAD");
     }
 
     private static void fits() {
         OF.sentence("FITS of a DRIVE: WORDS (bits) that are no longer than it");
         OF.run("w1 abc;w1 abcd;w1 a;d3;", "treads 0 0 1 = 3, drive 0 2 = 5");
-        OF.run("w1 ab;w1 abc;d1;d2;d3;", "cat 0 0 = 1, drive 0 2 = 0, treads 1 0 1 = 2, drive 1 2 = 1, treads 2 0 1 = 3, drive 2 2 = 3");
-        OF.run("w1 abcdef;d5;d6;d8;", "treads 0 0 1 = 5, drive 0 2 = 0, treads 1 0 1 = 6, drive 1 2 = 1, treads 2 0 1 = 8, drive 2 2 = 1");
+        OF.run("w1 ab;w1 abc;d1;d2;d3;", "cat 0 0 = 1, drive 0 2 = 0, treads 1 0 1 = 2, drive 1 2 = 1, treads 2 0 1 = 3",
+            "drive 2 2 = 3");
+        OF.run("w1 abcdef;d5;d6;d8;", "treads 0 0 1 = 5, drive 0 2 = 0, treads 1 0 1 = 6, drive 1 2 = 1, treads 2 0 1 = 8",
+            "drive 2 2 = 1");
         OF.sentence("FITS: each cell that is not TRODDEN is as it would be, were they RAKED there");
-        OF.run("w1 abc;w1 abd;w1 cbc;w1 abcd;d3;", "rakes 0 0 = 0, drive 0 2 = 1, cat 0 2 = 1, drive 0 2 = 3, cat 0 0 = 2, drive 0 2 = 7");
-        OF.run("w1 abc;w1 adc;d3;", "rakes 0 0 = 0, cat 0 0 = 1, cat 0 2 = 2, drive 0 2 = 1, rakes 0 1 = 0, cat 0 1 = 1, drive 0 2 = 3");
+        OF.run("w1 abc;w1 abd;w1 cbc;w1 abcd;d3;", "rakes 0 0 = 0, drive 0 2 = 1, cat 0 2 = 1, drive 0 2 = 3, cat 0 0 = 2",
+            "drive 0 2 = 7");
+        OF.run("w1 abc;w1 adc;d3;", "rakes 0 0 = 0, cat 0 0 = 1, cat 0 2 = 2, drive 0 2 = 1, rakes 0 1 = 0, cat 0 1 = 1",
+            "drive 0 2 = 3");
         OF.run("w1 a;w1 a;w1 b;d1;", "rakes 0 1 = 0, drive 0 2 = 3, rakes 0 2 = 0, drive 0 2 = 4, cat 0 0 = 1, drive 0 2 = 7");
         OF.sentence("FITS: (BLANK behind them)");
         OF.run("w1 ab;w1 abc;w1 abcd;d5;", "rakes 0 0 = 3, drive 0 2 = 1, cat 0 2 = 1, drive 0 2 = 3, cat 0 4 = 2, drive 0 2 = 3",
             "cat 0 3 = 3, drive 0 2 = 7, rakes 0 2 = 1, drive 0 2 = 4, cat 0 3 = 1, drive 0 2 = 6");
-        OF.run("w1 a;w1 abcdef;d8;", "rakes 0 0 = 7, treads 0 1 1 = 7, drive 0 2 = 3, rakes 0 1 = 2, treads 0 0 1 = 8, drive 0 2 = 3");
+        OF.run("w1 a;w1 abcdef;d8;", "rakes 0 0 = 7, treads 0 1 1 = 7, drive 0 2 = 3, rakes 0 1 = 2, treads 0 0 1 = 8",
+            "drive 0 2 = 3");
         OF.sentence("FITS of a bare DRIVE");
         OF.run("w1 ab;w1 a;d3;d1;", "drive 0 2 = 0, cat 0 0 = 1, drive 0 2 = 2, cat 0 1 = 2, drive 0 2 = 3, drive 1 2 = 0");
         OF.run("d3;", "drive 0 2 = 0, treads 0 0 1 = 3, drive 0 2 = 0");
@@ -102,7 +110,8 @@ public final class ToldSentencesTest {
 
     private static void look() {
         OF.sentence("LOOK: the TRODDEN cell");
-        OF.run("w1 a;w1 a;d3;", "rakes 0 0 = 2, cat 0 2 = 1, drive 0 3 = 2, cat 0 1 = 2, drive 0 3 = 1, cat 0 0 = 3, drive 0 3 = 0");
+        OF.run("w1 a;w1 a;d3;", "rakes 0 0 = 2, cat 0 2 = 1, drive 0 3 = 2, cat 0 1 = 2, drive 0 3 = 1, cat 0 0 = 3",
+            "drive 0 3 = 0");
         OF.run("w1 ab;w1 ac;d8;", "rakes 0 0 = 6, cat 0 7 = 1, cat 0 1 = 2, drive 0 3 = 1, cat 0 0 = 3, drive 0 3 = 1");
         OF.sentence("LOOK: by what is there (a LETTER, BLANK)");
         // cell 0: 4 and 5; cell 1: 1 and (BLANK) 8
@@ -134,7 +143,8 @@ public final class ToldSentencesTest {
         OF.run("w1 abc;w1 ab;d2;", "treads 0 0 1 = 2, drive 0 3 = NONE");
         OF.run("d2;", "treads 0 0 1 = 2, drive 0 3 = NONE");
         OF.sentence("LOOK: NONE (.. none is TRODDEN)");
-        OF.run("w1 a;w1 a;d1;", "drive 0 3 = NONE, rakes 0 0 = 0, drive 0 2 = 3, drive 0 3 = NONE, treads 0 1 1 = 0, drive 0 3 = NONE, cat 0 0 = 1, drive 0 3 = 0");
+        OF.run("w1 a;w1 a;d1;", "drive 0 3 = NONE, rakes 0 0 = 0, drive 0 2 = 3, drive 0 3 = NONE, treads 0 1 1 = 0",
+            "drive 0 3 = NONE, cat 0 0 = 1, drive 0 3 = 0");
     }
 
     private static void tracks() {
@@ -143,9 +153,11 @@ public final class ToldSentencesTest {
             OF.run("d" + cells + ";", "drive 0 4 = " + 4 * (8 - cells), "drive 0 5 = " + (10 * cells + 1));
         }
         OF.sentence("TRACKS: how many; the first; NONE.");
-        OF.run("d8;", "drive 0 4 = 0, drive 0 5 = NONE, cat 0 1 = 1, cat 0 2 = 2, drive 0 4 = 0, drive 0 5 = NONE, undo = 1, cat 0 4 = 2, cat 0 7 = 3, drive 0 4 = 1, drive 0 5 = 13");
+        OF.run("d8;", "drive 0 4 = 0, drive 0 5 = NONE, cat 0 1 = 1, cat 0 2 = 2, drive 0 4 = 0, drive 0 5 = NONE, undo = 1",
+            "cat 0 4 = 2, cat 0 7 = 3, drive 0 4 = 1, drive 0 5 = 13");
         OF.sentence("TRACKS: by which alone just those cells that are TRODDEN would be");
-        OF.run("d8;", "treads 0 0 4 = 2, drive 0 5 = 4, treads 0 2 4 = 2, drive 0 4 = 1, drive 0 5 = 2, treads 0 1 2 = 4, drive 0 4 = 1, drive 0 5 = 1");
+        OF.run("d8;", "treads 0 0 4 = 2, drive 0 5 = 4, treads 0 2 4 = 2, drive 0 4 = 1, drive 0 5 = 2, treads 0 1 2 = 4",
+            "drive 0 4 = 1, drive 0 5 = 1");
         OF.run("d8;", "treads 0 0 4 = 2, cat 0 1 = 3, drive 0 4 = 0, drive 0 5 = NONE");
         OF.sentence("TRACKS: (10 times FIRST and STRIDE)");
         OF.run("d8;", "cat 0 7 = 1, drive 0 4 = 4, drive 0 5 = 71");
@@ -174,7 +186,8 @@ public final class ToldSentencesTest {
                         first = two;
                     }
                 }
-                OF.run("d" + cells + ";", steps.toString(), "drive 0 1 = " + bits, "drive 0 4 = " + tracks, "drive 0 5 = " + first);
+                OF.run("d" + cells + ";", steps.toString(), "drive 0 1 = " + bits, "drive 0 4 = " + tracks,
+            "drive 0 5 = " + first);
             }
         }
     }
@@ -189,12 +202,15 @@ public final class ToldSentencesTest {
 
     private static void cells() {
         OF.sentence("cell: What can be read in a cell of a DRIVE: a LETTER, 8: BLANK; NONE: it is TRODDEN.");
-        OF.run("w1 hag;d5;d1;", "cell 0 0 = 8, cell 0 4 = 8, rakes 0 0 = 2, cell 0 0 = 7, cell 0 1 = 0, cell 0 2 = 6, cell 0 3 = 8, cell 0 4 = 8",
+        OF.run("w1 hag;d5;d1;", "cell 0 0 = 8, cell 0 4 = 8, rakes 0 0 = 2, cell 0 0 = 7, cell 0 1 = 0, cell 0 2 = 6",
+            "cell 0 3 = 8, cell 0 4 = 8",
             "cat 0 1 = 1, cell 0 1 = NONE, cell 0 0 = 7, cat 0 4 = 2, cell 0 4 = NONE, cell 0 3 = 8, cell 1 0 = 8",
             "rakes 0 0 = 2, board 0 = hag..");
         OF.sentence("cell: BAD.");
-        OF.run("d5;d1;", "cell 0 5 = BAD, cell 0 7 = BAD, cell 0 8 = BAD, cell 0 -1 = BAD, cell 1 1 = BAD, cell 1 -1 = BAD, cell 2 0 = BAD, cell 4 0 = BAD",
-            "cell -1 0 = BAD, cell -1 8 = BAD, cell 0 2147483647 = BAD, cell 0 -2147483648 = BAD, cell 2147483647 0 = BAD, treads 0 0 1 = 5, cell 0 5 = BAD");
+        OF.run("d5;d1;", "cell 0 5 = BAD, cell 0 7 = BAD, cell 0 8 = BAD, cell 0 -1 = BAD, cell 1 1 = BAD, cell 1 -1 = BAD",
+            "cell 2 0 = BAD, cell 4 0 = BAD",
+            "cell -1 0 = BAD, cell -1 8 = BAD, cell 0 2147483647 = BAD, cell 0 -2147483648 = BAD, cell 2147483647 0 = BAD",
+            "treads 0 0 1 = 5, cell 0 5 = BAD");
     }
 
     private static void goers() {
@@ -202,7 +218,9 @@ public final class ToldSentencesTest {
         OF.run("d1;d2;g24 1 7 4;g1 0 0 1;g9 0 5 2;", "goer 0 0 = 24, goer 0 1 = 1, goer 0 2 = 7, goer 0 3 = 4",
             "goer 1 0 = 1, goer 1 1 = 0, goer 1 2 = 0, goer 1 3 = 1, goer 2 0 = 9, goer 2 1 = 0, goer 2 2 = 5, goer 2 3 = 2");
         OF.sentence("goer: BAD.");
-        OF.run("d1;d2;g24 1 7 4;g1 0 0 1;", "goer 2 0 = BAD, goer 2 3 = BAD, goer 5 0 = BAD, goer 6 0 = BAD, goer -1 0 = BAD, goer -1 3 = BAD",
-            "goer 0 -1 = BAD, goer 0 4 = BAD, goer 1 -1 = BAD, goer 1 4 = BAD, goer 0 2147483647 = BAD, goer 2147483647 0 = BAD, goer -2147483648 -2147483648 = BAD");
+        OF.run("d1;d2;g24 1 7 4;g1 0 0 1;", "goer 2 0 = BAD, goer 2 3 = BAD, goer 5 0 = BAD, goer 6 0 = BAD, goer -1 0 = BAD",
+            "goer -1 3 = BAD",
+            "goer 0 -1 = BAD, goer 0 4 = BAD, goer 1 -1 = BAD, goer 1 4 = BAD, goer 0 2147483647 = BAD",
+            "goer 2147483647 0 = BAD, goer -2147483648 -2147483648 = BAD");
     }
 }
