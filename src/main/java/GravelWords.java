@@ -13,15 +13,15 @@ public final class GravelWords {
     private static final int UNDO_MOST = 10, IMAGES = 2, ODDS_OF = 10;
     private static final int LETTER_A = 0, LETTER_E = 4, LETTERS = 8, BLANK = 8;
     private static final int GOER_HOUR = 0, GOER_DRIVE = 1, GOER_FIRST = 2, GOER_STRIDE = 3, GOER_PARTS = 4;
-    private static final int WORD = 0, LETTER = 1, BILL = 2, VOW = 3, WRIT = 4, WILL = 5, KINDS = 6;
-    private static final int[] KIND_ABOVE = {-1, WORD, WORD, LETTER, BILL, WORD};
-    private static final int[] KIND_TRACED = {1, 10, 100, 1000, 10000, 100000};
+    private static final int NEVER = -1, ALWAYS = 1000;
+    private static final int WORD = 0, LETTER = 1, BILL = 2, VOW = 3, WRIT = 4, WILL = 5;
 
     private final Reader reader = new Reader();
     private final Suburb told = new Suburb();
     private final Morning now = new Morning();
     private final Past past = new Past();
     private final Shelf images = new Shelf(IMAGES);
+    private final int[] latestEnds = new int[DRIVES_MOST];
     private int imagesKept;
     private long traced;
 
@@ -211,7 +211,10 @@ public final class GravelWords {
         if (k < -1 || k >= DRIVES_MOST) {
             return BAD;
         }
-        int order = bestOrder(0, 0, now.hour);
+        for (int d = 0; d < DRIVES_MOST; d++) {
+            Rows.put(latestEnds, d, latestEndOf(d));
+        }
+        int order = bestOrder(latestEnds, 0, 0, now.hour);
         int read = readIn(order);
         if (k < 0) {
             return read;
@@ -237,10 +240,18 @@ public final class GravelWords {
     // ---- kinds, images
 
     public int rate(int kind, int w) {
-        if (kind < 0 || kind >= KINDS || !told.hasWord(w)) {
+        if (!told.hasWord(w)) {
             return NO;
         }
-        return askKind(kind, w, 0);
+        switch (kind) {
+            case WORD: return askWord(w);
+            case LETTER: return askLetter(w);
+            case BILL: return askBill(w);
+            case VOW: return askVow(w);
+            case WRIT: return askWrit(w);
+            case WILL: return askWill(w);
+            default: return NO;
+        }
     }
 
     public int keep(int image) {
@@ -470,16 +481,16 @@ public final class GravelWords {
     }
 
     /** The best order that begins with this one, which has so many drives and ends at that hour. */
-    private int bestOrder(int order, int read, int ends) {
+    private static int bestOrder(int[] latestEnds, int order, int read, int ends) {
         int best = order;
         if (read >= DRIVES_MOST) {
             return best;
         }
-        for (int d = 0; d < told.drives; d++) {
+        for (int d = 0; d < DRIVES_MOST; d++) {
             int way = read == 0 ? 0 : Math.abs(d - lastReadOf(order));
             int end = ends + way + 1;
-            if (!isReadIn(order, d) && isInTime(d, end)) {
-                int found = bestOrder(order * 8 + d + 1, read + 1, end);
+            if (!isReadIn(order, d) && end <= Rows.at(latestEnds, d)) {
+                int found = bestOrder(latestEnds, order * 8 + d + 1, read + 1, end);
                 // only a longer one: of several as long, the one found first is the first
                 best = readIn(found) > readIn(best) ? found : best;
             }
@@ -487,34 +498,48 @@ public final class GravelWords {
         return best;
     }
 
-    private boolean isInTime(int d, int end) {
+    /** The latest hour at which the reading of a drive can end, to be in time: that ahead of its next goer. */
+    private int latestEndOf(int d) {
+        int latest = told.hasDrive(d) && readableOn(d) != 0 ? ALWAYS : NEVER;
         for (int g = 0; g < told.goers; g++) {
             int comes = told.partOfGoer(g, GOER_HOUR);
-            if (told.partOfGoer(g, GOER_DRIVE) == d && comes >= now.hour && comes <= end) {
-                return false;
+            if (told.partOfGoer(g, GOER_DRIVE) == d && comes >= now.hour) {
+                latest = Math.min(latest, comes - 1);
             }
         }
-        return readableOn(d) != 0;
+        return latest;
     }
 
-    // ---- kinds
+    // ---- kinds: a body asks that of the kind above it by its name, each once
 
-    /** What a kind gives for a word; the depth ends it, were the kinds ever above one another in a ring. */
-    private int askKind(int kind, int w, int depth) {
-        if (kind < 0 || depth >= KINDS) {
-            return 0;
-        }
-        traced += Rows.at(KIND_TRACED, kind);
-        int up = askKind(Rows.at(KIND_ABOVE, kind), w, depth + 1);
-        switch (kind) {
-            case WORD: return told.longOfWord(w);
-            case LETTER: return up + told.saidOf(w);
-            case BILL: return up - told.vowelsOf(w);
-            case VOW: return 2 * up;
-            case WRIT: return up + w;
-            case WILL: return up + now.hour;
-            default: return 0;
-        }
+    private int askWord(int w) {
+        traced += 1;
+        return told.longOfWord(w);
+    }
+
+    private int askLetter(int w) {
+        traced += 10;
+        return askWord(w) + told.saidOf(w);
+    }
+
+    private int askBill(int w) {
+        traced += 100;
+        return askWord(w) - told.vowelsOf(w);
+    }
+
+    private int askVow(int w) {
+        traced += 1000;
+        return 2 * askLetter(w);
+    }
+
+    private int askWrit(int w) {
+        traced += 10000;
+        return askBill(w) + w;
+    }
+
+    private int askWill(int w) {
+        traced += 100000;
+        return askWord(w) + now.hour;
     }
 
     private static boolean isVowel(int letter) {

@@ -28,6 +28,8 @@ public final class LanguageTest {
         "Random", "Exception", "Error", "var", "yield", "protected", "instanceof", "lambda", "String", "StringBuilder",
         "double", "float", "goto");
 
+    private static final Set<Class<?>> TYPES = Set.of(int.class, long.class, int[].class);
+
     public static void main(String[] args) throws IOException {
         constants();
         face();
@@ -101,6 +103,9 @@ public final class LanguageTest {
             for (Field field : one.getDeclaredFields()) {
                 boolean constant = Modifier.isStatic(field.getModifiers());
                 hold(field + ": static fields are final", !constant || Modifier.isFinal(field.getModifiers()));
+                hold(field + ": static fields are numbers", !constant || field.getType() == int.class);
+                hold(field + ": of a type of the language", TYPES.contains(field.getType()) || all.contains(field.getType())
+                    || field.getType().isArray() && all.contains(field.getType().getComponentType()));
                 fields += constant ? 0 : 1;
             }
             hold(one + " has twenty fields at most", fields <= 20);
